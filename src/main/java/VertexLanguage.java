@@ -762,17 +762,20 @@ public final class VertexLanguage {
             sending = so;
         }
 
-        /** Reads an exp, or a part of one whose operators stand on a line of the grammar no lower than this. */
+        /**
+         * Reads an exp, or a part of one whose operators stand on a line of the grammar no lower than this.
+         * Behind an operator none of a higher line can follow, and behind one of comparing none of its own.
+         */
         Part operation(int lowest, int depth) {
             Part left = one(depth);
-            int seen = ONE;
+            int highest = TERM;
             for (int i = 0; i <= Tokens.MOST; i++) {
                 int level = levelOf(tokens.code);
-                if (level < lowest || level == TEST && seen == TEST) {
+                if (level < lowest || level > highest) {
                     break;
                 }
                 left = joined(left, level, depth);
-                seen = level;
+                highest = level == TEST ? BOTH : level;
             }
             return left;
         }

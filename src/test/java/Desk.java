@@ -15,8 +15,13 @@ final class Desk {
         asked++;
         if (!Objects.equals(got, want)) {
             wrong++;
-            System.out.println(call + " answered " + got + ", due is " + want);
+            System.out.println(shortened(call) + " answered " + got + ", due is " + want);
         }
+    }
+
+    private static String shortened(String call) {
+        int size = call.length();
+        return size <= 800 ? call : call.substring(0, 300) + " .. " + call.substring(size - 400);
     }
 
     /** Ends the test: exit code 1 if an answer was wrong. */

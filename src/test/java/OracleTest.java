@@ -1,0 +1,159 @@
+import java.nio.charset.StandardCharsets;
+import java.util.List;
+import java.util.Random;
+
+/** Runs of calls by chance (from fixed seeds) on the class and on Reference: every answer has to be the same. */
+public final class OracleTest {
+    private static final int[] SEEDS = {0, 1, -1, 7, 12345, Integer.MIN_VALUE, Integer.MAX_VALUE};
+
+    private final Random chance;
+    private final VertexLanguage x = new VertexLanguage();
+    private final Reference r = new Reference();
+    private String story = "";
+    private int calls;
+
+    private OracleTest(Random chance) {
+        this.chance = chance;
+    }
+
+    public static void main(String[] args) {
+        int runs = args.length > 0 ? Integer.parseInt(args[0]) : 3000;
+        int shift = args.length > 1 ? Integer.parseInt(args[1]) : 0;
+        int[] seen = new int[8];
+        int[] failures = new int[4];
+        for (int run = shift; run < shift + runs; run++) {
+            OracleTest test = new OracleTest(new Random(run * 7919L + 13));
+            int answer = test.play(run);
+            seen[answer >= 0 ? 0 : -answer - 10]++;
+            int failure = test.x.told(4);
+            failures[failure < 0 ? 0 : failure]++;
+        }
+        for (int i = 0; i <= 5; i++) {
+            Desk.due("runs with FAULT " + i + ": " + seen[i] + ", any", seen[i] > 0, true);
+        }
+        for (int i = 0; i <= 3; i++) {
+            Desk.due("runs with FAILURE " + i + ": " + failures[i] + ", any", failures[i] > 0, true);
+        }
+        if (args.length > 0) {
+            System.out.println(java.util.Arrays.toString(seen) + java.util.Arrays.toString(failures));
+        }
+        Desk.close();
+    }
+
+    private void same(String call, int got, int want) {
+        calls++;
+        if (got != want) {
+            Desk.due(story + "\n" + call, got, want);
+        }
+    }
+
+    private int play(int run) {
+        Author author = new Author(chance, run % 3 == 0 ? 0.03 : run % 3 == 1 ? 0.003 : 0);
+        List<String> tokens = author.write(1 + chance.nextInt(run % 10 == 0 ? 130 : 12));
+        String text = author.spell(tokens);
+        story = "run " + run + ": " + text;
+        feed(text.length() > 4000 ? text.substring(0, 4000) : text);
+        int answer = r.program();
+        same("program()", x.program(), answer);
+        same("fault(0)", x.fault(0), r.fault(0));
+        same("fault(1)", x.fault(1), r.fault(1));
+        for (int what = -1; what <= 7; what++) {
+            same("count " + what, x.count(what), r.count(what));
+        }
+        comparePrinted();
+        drawGraph();
+        for (int i = 0; i < 2; i++) {
+            playRun();
+        }
+        return answer;
+    }
+
+    private void comparePrinted() {
+        int size = r.print(-1);
+        same("print(-1)", x.print(-1), size);
+        VertexLanguage unspent = x;
+        for (int i = -3; i < Math.min(size, 3900) + 3; i++) {
+            if (unspent.print(i) != r.print(i)) {
+                same("print(" + i + ")", unspent.print(i), r.print(i));
+                return;
+            }
+        }
+    }
+
+    private void feed(String text) {
+        byte[] bytes = text.getBytes(StandardCharsets.ISO_8859_1);
+        for (int from = 0; from < bytes.length; from += 20) {
+            int[] words = new int[5];
+            for (int i = 0; i < 20; i++) {
+                words[i / 4] = words[i / 4] << 8 | (from + i < bytes.length ? bytes[from + i] & 255 : 0);
+            }
+            same("feed", x.feed(words[0], words[1], words[2], words[3], words[4]), r.feed(words));
+            if (bytes.length - from < 20) {
+                same("end", x.end(bytes.length - from), r.end(bytes.length - from));
+            }
+        }
+    }
+
+    private void drawGraph() {
+        int n = chance.nextInt(5) == 0 ? chance.nextInt(42) : 1 + chance.nextInt(6);
+        same("nodes(" + n + ")", x.nodes(n), r.nodes(n));
+        int arcs = chance.nextInt(8) == 0 ? 125 : chance.nextInt(14);
+        for (int i = 0; i < arcs; i++) {
+            int from = chance.nextInt(n + 1);
+            int to = chance.nextInt(n + 1) - (chance.nextInt(20) == 0 ? 1 : 0);
+            same("arc(" + from + ", " + to + ")", x.arc(from, to), r.arc(from, to));
+        }
+        for (int i = 0; i < 20; i++) {
+            weigh();
+        }
+        story += "\n" + n + " nodes, " + x.count(6) + " arcs";
+    }
+
+    private void weigh() {
+        int arc = chance.nextInt(x.count(6) + 2) - 1;
+        int column = chance.nextInt(6) - 1;
+        int v = chance.nextInt(4) == 0 ? chance.nextInt() : chance.nextInt(9) - 3;
+        story += " w" + arc + "," + column + "=" + v;
+        same("weight(" + arc + ", " + column + ", " + v + ")", x.weight(arc, column, v), r.weight(arc, column, v));
+    }
+
+    private void playRun() {
+        int seed = chance.nextBoolean() ? chance.nextInt() : SEEDS[chance.nextInt(SEEDS.length)];
+        story += "\nbegin(" + seed + ")";
+        same("begin", x.begin(seed), r.begin(seed));
+        look();
+        for (int i = 0; i < 8; i++) {
+            int which = chance.nextInt(10);
+            if (which < 6) {
+                int turns = chance.nextInt(6) == 0 ? chance.nextInt(103) - 1 : 1 + chance.nextInt(3);
+                story += " run(" + turns + ")";
+                same("run(" + turns + ")", x.run(turns), r.run(turns));
+            } else if (which < 9) {
+                story += " undo()";
+                same("undo()", x.undo(), r.undo());
+            } else {
+                weigh();
+            }
+            look();
+        }
+    }
+
+    private void look() {
+        for (int what = -1; what <= 10; what++) {
+            same("told(" + what + ")", x.told(what), r.told(what));
+        }
+        for (int k = -1; k <= 4; k++) {
+            same("global(" + k + ")", x.global(k), r.global(k));
+        }
+        int n = x.count(5);
+        for (int i = 0; i < 4; i++) {
+            int node = chance.nextInt(n + 2) - 1;
+            int fold = chance.nextInt(6) - 1;
+            int k = chance.nextInt(10) - 1;
+            same("state(" + node + ", " + k + ")", x.state(node, k), r.state(node, k));
+            same("message(" + node + ", " + fold + ")", x.message(node, fold), r.message(node, fold));
+            same("messages(" + node + ", " + fold + ")", x.messages(node, fold), r.messages(node, fold));
+            same("halted(" + node + ")", x.halted(node), r.halted(node));
+        }
+    }
+}
