@@ -344,15 +344,8 @@ public final class VertexLanguage {
             markedPlace = 0;
             Arrays.fill(dropped, 0);
             scan();
-            goTo(0);
-        }
-
-        private void goTo(int token) {
-            at = token;
-            code = item(codes, token);
-            place = item(places, token);
-            length = item(lengths, token);
-            value = item(values, token);
+            at = -1;
+            take();
         }
 
         /** One more than the limit is read, since the TOKEN beyond it is where the FAULT stands. */
@@ -488,9 +481,14 @@ public final class VertexLanguage {
             if (at >= MOST) {
                 refuse(TOO_MANY);
             }
-            if (refused == 0) {
-                goTo(at + 1);
+            if (refused != 0) {
+                return;
             }
+            at++;
+            code = item(codes, at);
+            place = item(places, at);
+            length = item(lengths, at);
+            value = item(values, at);
         }
 
         void want(int wanted) {
@@ -717,7 +715,6 @@ public final class VertexLanguage {
         int second(int at) {
             return item(seconds, at);
         }
-
     }
 
     /** A part of an exp that has been read: its kind, its line of the grammar, where it begins, the ( ) around it. */
@@ -748,7 +745,6 @@ public final class VertexLanguage {
         private final Tokens tokens;
         private final Names names;
         private final Code code;
-
         private boolean sending;
 
         Expressions(Tokens itsTokens, Names itsNames, Code itsCode) {
@@ -1376,29 +1372,35 @@ public final class VertexLanguage {
             names = itsNames;
         }
 
-        void becomeFirst() {
-            for (int i = 0; i < states.length; i++) {
-                setItem(states, i, names.detail(Names.STATE, i & Names.STRIDE - 1));
+        void becomeFirst(int nodeCount) {
+            for (int k = 0; k < names.amount(Names.STATE); k++) {
+                int first = names.detail(Names.STATE, k);
+                for (int node = 0; node < nodeCount; node++) {
+                    setState(node, k, first);
+                }
             }
             Arrays.fill(resting, 0);
-            clearFolds();
+            clearFolds(nodeCount);
         }
 
-        void follow(Moment before) {
+        void follow(Moment before, int nodeCount) {
             System.arraycopy(before.states, 0, states, 0, states.length);
             System.arraycopy(before.resting, 0, resting, 0, resting.length);
-            clearFolds();
+            clearFolds(nodeCount);
         }
 
-        private void clearFolds() {
+        private void clearFolds(int nodeCount) {
             underWay = 0;
             steps = 0;
             Arrays.fill(arrived, 0);
             Arrays.fill(given, 0);
-            for (int i = 0; i < folded.length; i++) {
-                setItem(folded, i, item(NEUTRAL, names.detail(Names.FOLD, i & FOLDS - 1)));
+            for (int fold = 0; fold < names.amount(Names.FOLD); fold++) {
+                int nothing = item(NEUTRAL, names.detail(Names.FOLD, fold));
+                for (int node = 0; node < nodeCount; node++) {
+                    setItem(folded, node * FOLDS + fold, nothing);
+                }
             }
-            for (int k = 0; k < FOLDS; k++) {
+            for (int k = 0; k < names.amount(Names.GLOBAL); k++) {
                 setItem(globals, k, item(NEUTRAL, names.detail(Names.GLOBAL, k)));
             }
         }
@@ -1793,7 +1795,7 @@ public final class VertexLanguage {
             failedNode = 0;
             failedPlace = 0;
             failedTurn = 0;
-            now().becomeFirst();
+            now().becomeFirst(graph.nodeCount);
         }
 
         Moment now() {
@@ -1821,7 +1823,7 @@ public final class VertexLanguage {
         boolean doTurn() {
             Moment before = now();
             Moment after = momentBefore(turn + 1);
-            after.follow(before);
+            after.follow(before, graph.nodeCount);
             worker.openTurn(before, after, seed, turn);
             int steps = 0;
             for (int node = 0; node < graph.nodeCount; node++) {

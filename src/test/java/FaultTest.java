@@ -182,6 +182,12 @@ public final class FaultTest {
         due(2, "start { " + times(11, "if true { ") + "let a = - @1 ; " + times(11, "} ") + "} round { }");
         due(2, "start { " + times(11, "if true { ") + "let a = draw ( @1 ) ; " + times(11, "} ") + "} round { }");
         due(2, "start { " + times(11, "if true { ") + "let a = if ( @true , 1 , 2 ) ; " + times(11, "} ") + "} round { }");
+        for (String exp : "1 true false x arc.w has|f id turn nodes degree indegree draw(1) if(true,1,2) (1) -1 !true".split(" ")) {
+            due(2, "start { " + times(11, "if true { ") + "let a = ( @" + exp.replace('|', ' ') + " ) ; " + times(11, "} ")
+                + "} round { }");
+        }
+        due(2, "start { " + times(10, "if true { ") + "let a = if ( true , ( @1 ) , 2 ) ; " + times(10, "} ") + "} round { }");
+        due(2, "start { " + times(10, "if true { ") + "let a = if ( true , 1 , - @2 ) ; " + times(10, "} ") + "} round { }");
         due(1, "start { " + times(11, "if true { ") + "let a = ( @) ; " + times(11, "} ") + "} round { }");
         due(1, "start { " + times(11, "if true { ") + "let a = - @; " + times(11, "} ") + "} round { }");
         due(2, "start { let a = " + times(12, "( ") + "@1 " + times(12, ") ") + "; } round { }");
@@ -288,6 +294,10 @@ public final class FaultTest {
         inStart(5, "give k @id ;");
         due(5, "fold a : first ; start { } round { send a @true along ; }");
         due(5, "fold a : all ; start { } round { send a @1 along ; }");
+        due(5, "global a : all ; start { } round { give a @1 ; }");
+        due(5, "fold a : all ; node i : int = 1 ; start { i = @has a ; } round { }");
+        due(5, "node i : int = 1 ; start { i = @true ; } round { }");
+        due(5, "column w ; fold h : all ; start { send h @arc . w along ; } round { }");
         fine("b = b == ( b != false ) ;");
         fine("i = if ( b , 1 , 2 ) ; b = if ( b , b , 1 < 2 ) ; b = ( i < 1 ) == b ;");
     }

@@ -70,6 +70,8 @@ public final class GraphTest {
         Desk.due("weight(0, -1)", x.weight(0, -1, 9), 0);
         Desk.due("weight(least, greatest)", x.weight(Integer.MIN_VALUE, Integer.MAX_VALUE, 9), 0);
         Desk.due("weight(0, 0) stays", x.weight(0, 0, 1), 1);
+        Desk.due("weight(1, 0) stays", x.weight(1, 0, 0), 0);
+        Desk.due("weight(0, 3) stays", x.weight(0, 3, 0), 0);
         x.arc(0, 0);
         Desk.due("weight of a new arc: 0, not what a wrong call told", x.weight(2, 0, 1), 0);
         x.nodes(2);

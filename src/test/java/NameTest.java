@@ -13,6 +13,11 @@ public final class NameTest {
             " a", "a ", "a\n", "a;", "node s : int = 1 ; column a ;", "\u00e1"}) {
             Desk.due("name() of '" + other + "'", desk.find(other), Desk.NONE);
         }
+        Desk edges = Desk.with("column z ; column Z ; column a0 ; column A9 ; start { } round { }");
+        Desk.due("name() of z", edges.find("z"), 0);
+        Desk.due("name() of Z", edges.find("Z"), 1);
+        Desk.due("name() of a0", edges.find("a0"), 2);
+        Desk.due("name() of A9", edges.find("A9"), 3);
         emptiness();
         noProgram();
         newProgram();

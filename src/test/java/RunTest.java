@@ -13,6 +13,7 @@ public final class RunTest {
         shortWays();
         drawing();
         weightsOfArcs();
+        oneBehindAnother();
         Desk.close();
     }
 
@@ -233,6 +234,9 @@ public final class RunTest {
         truth("true || true && false", true);
         truth("( true || true ) && false", false);
         truth("if ( false , true , false ) == ( 1 > 2 )", true);
+        truth("true == ( false && true )", false);
+        truth("false == ( true || false )", false);
+        truth("true == ( true || false ) && 1 + if ( false && true , 1 , 2 ) == 3", true);
     }
 
     /** What is not needed is not worked out: else it would fail. */
@@ -275,6 +279,18 @@ public final class RunTest {
         desk.x.begin(0);
         desk.x.run(1);
         Desk.due("draw of all zeros", desk.x.state(0, 0), 0);
+    }
+
+    /** Programs on one object, each with all its own: none of what was before is left. */
+    private static void oneBehindAnother() {
+        Desk desk = new Desk();
+        for (int i = 0; i < 12; i++) {
+            desk.load("node v : int = " + i + " ; start { v = v" + " + 1".repeat(150) + " ; } round { v = v - 1 ; }");
+            desk.x.begin(0);
+            Desk.due("v at first, program " + i, desk.x.state(0, 0), i);
+            Desk.due("run(3), program " + i, desk.x.run(3), 3);
+            Desk.due("v, program " + i, desk.x.state(0, 0), i + 148);
+        }
     }
 
     private static void weightsOfArcs() {
