@@ -1366,7 +1366,6 @@ public final class VertexLanguage {
         private final int[] given = new int[FOLDS];
         private final int[] globals = new int[FOLDS];
         int underWay;
-        int steps;
 
         Moment(Names itsNames) {
             names = itsNames;
@@ -1391,7 +1390,6 @@ public final class VertexLanguage {
 
         private void clearFolds(int nodeCount) {
             underWay = 0;
-            steps = 0;
             Arrays.fill(arrived, 0);
             Arrays.fill(given, 0);
             for (int fold = 0; fold < names.amount(Names.FOLD); fold++) {
@@ -1768,6 +1766,8 @@ public final class VertexLanguage {
         private int failedNode;
         private int failedPlace;
         private int failedTurn;
+        /** Kept beside the moments: a TURN that is undone has been done all the same, and is the last one. */
+        private int stepsDone;
         boolean there;
         int turn;
 
@@ -1795,6 +1795,7 @@ public final class VertexLanguage {
             failedNode = 0;
             failedPlace = 0;
             failedTurn = 0;
+            stepsDone = 0;
             now().becomeFirst(graph.nodeCount);
         }
 
@@ -1838,7 +1839,7 @@ public final class VertexLanguage {
                     return false;
                 }
             }
-            after.steps = steps;
+            stepsDone = steps;
             turn++;
             kept = Math.min(kept + 1, MOST_KEPT);
             return true;
@@ -1881,7 +1882,7 @@ public final class VertexLanguage {
                 case 8:
                     return kept;
                 case 9:
-                    return now().steps;
+                    return stepsDone;
                 default:
                     return BAD;
             }

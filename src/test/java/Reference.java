@@ -688,7 +688,6 @@ final class Reference {
 
     private static final class World {
         int turn;
-        int steps;
         int[][] states;
         boolean[] halted;
         List<Mail> mail = new ArrayList<>();
@@ -706,6 +705,7 @@ final class Reference {
     private World next;
     private int node;
     private int steps;
+    private int stepsDone;
     private int drawn;
     private int[] arcNow;
     private int statementPlace;
@@ -718,6 +718,7 @@ final class Reference {
         seed = itsSeed;
         past = new ArrayDeque<>();
         failure = new int[4];
+        stepsDone = 0;
         world = new World();
         world.halted = new boolean[nodeCount];
         List<Told> states = ofSort('n');
@@ -765,6 +766,7 @@ final class Reference {
         for (int i = 0; i < nodeCount; i++) {
             next.states[i] = world.states[i].clone();
         }
+        int stepsOfAll = 0;
         for (node = 0; node < nodeCount; node++) {
             boolean woken = false;
             for (Mail one : world.mail) {
@@ -781,13 +783,14 @@ final class Reference {
             } catch (Halt halt) {
                 next.halted[node] = true;
             }
-            next.steps += steps;
+            stepsOfAll += steps;
         }
         past.push(world);
         if (past.size() > 6) {
             past.removeLast();
         }
         world = next;
+        stepsDone = stepsOfAll;
     }
 
     private void step() {
@@ -1006,7 +1009,7 @@ final class Reference {
             resting += one ? 1 : 0;
         }
         int[] answers = {world.turn, isEnded() ? 1 : 0, world.mail.size(), resting, failure[0], failure[1], failure[2],
-            failure[3], past.size(), world.steps};
+            failure[3], past.size(), stepsDone};
         return answers[what];
     }
 

@@ -5,6 +5,8 @@ public final class UndoTest {
         six();
         allComesBack();
         behindTheEnd();
+        stepsStay();
+        stepsOfAFailure();
         Desk.close();
     }
 
@@ -46,10 +48,11 @@ public final class UndoTest {
         Desk.due("told(8)", desk.x.told(8), 6);
     }
 
+    /** All that undo() brings back; told(8) goes down, and told(9) stays that of the TURN done last. */
     private static String all(Desk desk) {
         StringBuilder out = new StringBuilder();
-        for (int what = 0; what <= 9; what++) {
-            out.append(what == 8 ? "" : desk.x.told(what) + " ");
+        for (int what = 0; what <= 7; what++) {
+            out.append(desk.x.told(what)).append(' ');
         }
         for (int node = 0; node < 3; node++) {
             out.append(desk.states(node)).append(' ').append(desk.x.message(node, 0)).append(' ');
@@ -89,5 +92,49 @@ public final class UndoTest {
         Desk.due("run(100) again", desk.x.run(100), 1);
         Desk.due("run(100) does none", desk.x.run(100), 0);
         Desk.due("told(8)", desk.x.told(8), 3);
+    }
+
+    private static void stepsStay() {
+        Desk desk = Desk.with("node v : int = 0 ; start { v = id + 1 ; } "
+            + "round { v = v + 1 ; if turn == 2 { halt ; } }", 2);
+        desk.x.begin(5);
+        Desk.due("told(9) of no TURN", desk.x.told(9), 0);
+        desk.x.run(1);
+        Desk.due("told(9) of TURN 0", desk.x.told(9), 8);
+        Desk.due("undo()", desk.x.undo(), 0);
+        Desk.due("told(9) of TURN 0, undone", desk.x.told(9), 8);
+        Desk.due("undo() of none", desk.x.undo(), Desk.NONE);
+        Desk.due("told(9) behind a refused undo()", desk.x.told(9), 8);
+        desk.x.run(2);
+        Desk.due("told(9) of TURN 1", desk.x.told(9), 16);
+        desk.x.run(1);
+        Desk.due("told(9) of TURN 2", desk.x.told(9), 18);
+        desk.x.undo();
+        desk.x.undo();
+        Desk.due("told(9) of TURN 2, undone with the one before", desk.x.told(9), 18);
+        desk.x.run(1);
+        Desk.due("told(9) of TURN 1, done again", desk.x.told(9), 16);
+        desk.x.run(100);
+        Desk.due("ENDED", desk.x.told(1), 1);
+        Desk.due("run(1) does none", desk.x.run(1), 0);
+        Desk.due("told(9) where none was done", desk.x.told(9), 18);
+        desk.x.begin(5);
+        Desk.due("told(9) behind begin()", desk.x.told(9), 0);
+    }
+
+    /** A TURN that failed was not done: its STEPS are nowhere, and those of an undone one stay. */
+    private static void stepsOfAFailure() {
+        Desk desk = Desk.with("node v : int = 0 ; start { } round { v = 6 / ( 2 - turn ) ; }", 1);
+        desk.x.begin(5);
+        desk.x.run(2);
+        Desk.due("told(9) of TURN 1", desk.x.told(9), 6);
+        Desk.due("run(1)", desk.x.run(1), Desk.FAILED);
+        Desk.due("told(9) behind a FAILURE", desk.x.told(9), 6);
+        desk.x.undo();
+        desk.x.undo();
+        Desk.due("told(9) of TURN 1, undone", desk.x.told(9), 6);
+        Desk.due("told(4) stays", desk.x.told(4), 1);
+        Desk.due("run(1)", desk.x.run(1), 1);
+        Desk.due("told(9) of TURN 0", desk.x.told(9), 0);
     }
 }
