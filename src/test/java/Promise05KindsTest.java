@@ -24,7 +24,9 @@ public final class Promise05KindsTest {
         Desk.held("5 FAULT 5: the last two parts of an if ( , , ) have one kind", Promise05KindsTest::lastTwoParts);
         Desk.held("5 FAULT 5: a state, let gets its own kind", Promise05KindsTest::ownKind);
         Desk.held("5 FAULT 5: a fold, global gets its own kind: all, some bool, others int", Promise05KindsTest::ways);
+        Desk.held("5 FAULT 5: the same where it is the first that is told", Promise05KindsTest::firstTold);
         Desk.held("5 FAULT 5: a let has the kind of its exp", Promise05KindsTest::kindOfLets);
+        Desk.held("5 FAULT 5: exps of every line of the grammar, in every place", Promise05KindsTest::everyLine);
         Desk.held("5 FAULT 5: at the first TOKEN, a ( too", Promise05KindsTest::firstTokens);
         Desk.held("5 a NAME with FAULT 4, and has, arc . with it, are of any KIND", Promise05KindsTest::anyKind);
         Desk.close();
@@ -155,6 +157,20 @@ public final class Promise05KindsTest {
         }
     }
 
+    /** Each sort as the first, and the only one, that is told. */
+    private static void firstTold() {
+        Desk.faulty(5, "global a : all ; start { give a @1 ; } round { }");
+        Desk.faulty(5, "global a : sum ; start { give a @true ; } round { }");
+        Desk.faulty(5, "global a : sum ; start { let x = @a && true ; } round { }");
+        Desk.faulty(5, "fold a : all ; start { send a @1 along ; } round { }");
+        Desk.faulty(5, "fold a : first ; start { send a @true along ; } round { }");
+        Desk.faulty(5, "fold a : all ; start { let x = @has a + 1 ; } round { }");
+        Desk.faulty(5, "node a : bool = true ; start { a = @1 ; } round { }");
+        Desk.faulty(5, "node a : int = 1 ; start { a = @true ; } round { }");
+        Desk.faulty(5, "start { let a = true ; a = @1 ; } round { }");
+        Desk.faulty(5, "column a ; fold h : all ; start { send h @arc . a along ; } round { }");
+    }
+
     private static void kindOfLets() {
         inStart(5, "let x = true ; i = @x ;");
         inStart(5, "let x = 1 < 2 ; x = @1 ;");
@@ -163,6 +179,20 @@ public final class Promise05KindsTest {
         inStart(5, "let x = 1 ; let y = x ; b = @y ;");
         inStart(5, "if b { let x = 1 ; } let x = true ; i = @x ;");
         fine(4, "if b { let x = 1 ; } let x = true ; b = x ;");
+    }
+
+    /** In every place where an exp can stand it may be one of any line of the grammar. */
+    private static void everyLine() {
+        for (String exp : new String[] {"b || b", "b && b", "1 < 2", "b == b", "! b", "b"}) {
+            fine(8, "b = # ; let x = # ; send h # along ; send h # against ; give k # ; if # { } b = if ( # , # , # ) ; b = ( # ) ;"
+                .replace("#", exp));
+            inStart(5, "i = draw ( @" + exp + " ) ;");
+        }
+        for (String exp : new String[] {"1 + 2", "1 * 2", "- 1", "1"}) {
+            fine(7, "i = # ; let x = # ; send f # along ; give g # ; i = if ( b , # , # ) ; i = ( # ) ; i = draw ( # ) ;"
+                .replace("#", exp));
+            inStart(5, "if @" + exp + " { }");
+        }
     }
 
     private static void firstTokens() {
@@ -199,6 +229,21 @@ public final class Promise05KindsTest {
         inStart(4, "b = ( @q ) ;");
         inStart(4, "i = ( @q ) ;");
         inStart(4, "i = - ( has @q ) ;");
+        // of another sort than can stand there: any KIND too
+        inStart(4, "b = ( @w ) ;");
+        inStart(4, "i = ( @w ) ;");
+        inStart(4, "b = ( @w ) && b ;");
+        inStart(4, "b = ! ( @w ) ;");
+        inStart(4, "if ( @w ) { }");
+        inStart(4, "i = ( has @g ) + 1 ;");
+        inStart(4, "i = ( has @i ) + 1 ;");
+        inStart(4, "b = ( has @g ) && b ;");
+        inStart(4, "b = ! ( has @q ) ;");
+        inStart(4, "b = ( arc . @w ) ;");
+        inStart(4, "send h ( arc . @i ) along ;");
+        inStart(4, "send h ( arc . @q ) along ;");
+        inStart(4, "send f 1 + ( arc . @b ) along ;");
+        inStart(5, "send h @( arc . w ) along ;");
         inStart(5, "b = @( has q ) + 1 ;");
         inStart(5, "b = @if ( b , 1 , q ) ;");
         inStart(4, "i = if ( b , 1 , @q ) ;");

@@ -7,6 +7,7 @@ public final class Promise06PrintTest {
         Desk.held("6 print: BAD: none such", Promise06PrintTest::noneSuch);
         Desk.held("6 print: BAD: no program", Promise06PrintTest::noProgram);
         Desk.held("6 print: the latest program, whatever is done with it", Promise06PrintTest::latest);
+        Desk.held("6 print: one program behind another, with nothing of those before", Promise06PrintTest::oneBehindAnother);
         Desk.held("6 PRINTED: TOKENS as they are written there, a blank between two", Promise06PrintTest::layout);
         Desk.held("6 PRINTED: ( ) around ints where they are needed, and nowhere else", Promise06PrintTest::ints);
         Desk.held("6 PRINTED: ( ) around bools where they are needed, and nowhere else", Promise06PrintTest::bools);
@@ -71,6 +72,19 @@ public final class Promise06PrintTest {
         desk.x.end(3);
         desk.x.name();
         Desk.due("behind name()", desk.printed(), "column a ; start { } round { }");
+    }
+
+    /** ( ) that one program does not print must not take away what stands at their places in the next. */
+    private static void oneBehindAnother() {
+        Desk desk = Desk.with("start{let a=((((1))));}round{}");
+        Desk.due("the first", desk.printed(), "start { let a = 1 ; } round { }");
+        desk.load("start{let a=1+1+1+1+1;}round{}");
+        Desk.due("the second", desk.printed(), "start { let a = 1 + 1 + 1 + 1 + 1 ; } round { }");
+        desk.load("start{let a=((1+");
+        desk.load("start{let a=(2-1)*1;}round{}");
+        Desk.due("the one behind a wrong one", desk.printed(), "start { let a = ( 2 - 1 ) * 1 ; } round { }");
+        desk.load("start{}round{let a=(2*1)-1;}");
+        Desk.due("the last", desk.printed(), "start { } round { let a = 2 * 1 - 1 ; }");
     }
 
     private static void due(String text, String want) {

@@ -11,6 +11,7 @@ public final class Promise12BeginTest {
         Desk.held("12 begin: no messages, nobody halted, TURN 0", Promise12BeginTest::nothingElse);
         Desk.held("12 begin: eight states of forty nodes", Promise12BeginTest::eightOfForty);
         Desk.held("12 begin: anew, with nothing of the RUN before", Promise12BeginTest::anew);
+        Desk.held("12 begin: anew, behind any number of TURNS", Promise12BeginTest::anewBehindManyTurns);
         Desk.held("12 begin: the same seed gives the same RUN, another one another", Promise12BeginTest::seeds);
         Desk.held("12 begin: program, graph and tape stay", Promise12BeginTest::allElseStays);
         Desk.close();
@@ -97,6 +98,18 @@ public final class Promise12BeginTest {
         Desk.due("undo()", desk.x.undo(), Desk.NONE);
         Desk.due("begin(5) twice", desk.x.begin(5), 1);
         Desk.due("all behind begin()", desk.everything(), first);
+    }
+
+    /** Behind any number of TURNS, with all halted and states, messages, globals at other numbers. */
+    private static void anewBehindManyTurns() {
+        for (int turns = 1; turns <= 20; turns++) {
+            Desk desk = Desk.begun("node v : int = 3 ; node b : bool = true ; fold f : most ; global g : all ; start { v = 9 ; } "
+                + "round { v = v + 1 ; b = false ; send f v along ; give g false ; halt ; }", 2, 0, 1, 1, 0);
+            String first = desk.everything();
+            Desk.due("run(" + turns + ")", desk.x.run(turns), turns);
+            desk.x.begin(0);
+            Desk.due("all behind begin() of TURN " + turns, desk.everything(), first);
+        }
     }
 
     private static void seeds() {

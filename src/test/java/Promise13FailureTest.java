@@ -16,6 +16,7 @@ public final class Promise13FailureTest {
             Promise13FailureTest::ownFailureBehind);
         Desk.held("13 STEPS: of && || if behind those of the first", Promise13FailureTest::behindTheFirst);
         Desk.held("13 a FAILURE: the turn is not done: all is as before it", Promise13FailureTest::allStays);
+        Desk.held("13 a FAILURE: a hundred of them, then a TURN that is done", Promise13FailureTest::failingOften);
         Desk.held("13 a FAILURE: the first that is met", Promise13FailureTest::firstThatIsMet);
         Desk.close();
     }
@@ -278,6 +279,21 @@ public final class Promise13FailureTest {
         Desk.due("undo()", desk.x.undo(), 2);
         Desk.due("run(5): one is done, then it fails", desk.x.run(5), Desk.FAILED);
         Desk.due("all is as it was", desk.standing(), before.substring(0, before.length() - desk.told(8, 9).length()));
+    }
+
+    /** Where a TURN fails in the midst of an exp, a hundred times: the next one that is done is none the worse. */
+    private static void failingOften() {
+        Desk desk = Desk.begun("column w ; fold f : sum ; fold h : sum ; start { loop 2 { send f 1 + ( 2 + ( 3 + ( 4 + ( 5 + ( 6 + "
+            + "12 / arc . w ) ) ) ) ) along ; } send h draw ( 1000 ) along ; } round { }", 2, 0, 1);
+        for (int i = 0; i < 100; i++) {
+            Desk.due("run(1)", desk.x.run(1), Desk.FAILED);
+        }
+        desk.x.weight(0, 0, 2);
+        Desk.due("run(1)", desk.x.run(1), 1);
+        Desk.due("message(1, 0)", desk.x.message(1, 0), 54);
+        Desk.due("messages(1, 0)", desk.x.messages(1, 0), 2);
+        Desk.due("message(1, 1): the first draw", desk.x.message(1, 1), 0);
+        Desk.due("told(9)", desk.x.told(9), 1 + 2 * 18 + 4 + 1 + 2 * 2 + 1);
     }
 
     private static void firstThatIsMet() {

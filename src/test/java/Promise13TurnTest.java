@@ -14,6 +14,7 @@ public final class Promise13TurnTest {
         Desk.held("13 folds, globals: where there is nothing", Promise13TurnTest::nothing);
         Desk.held("13 has: whether there is something, whatever its number", Promise13TurnTest::has);
         Desk.held("13 globals: folded as they are given, of the turn before", Promise13TurnTest::globals);
+        Desk.held("13 folds, globals: of each of thirty TURNS", Promise13TurnTest::turnByTurn);
         Desk.held("13 globals: sum wraps at both ends; what equals nothing", Promise13TurnTest::globalsAtBothEnds);
         Desk.held("13 send: for each arc, by rising numbers, with that arc's columns", Promise13TurnTest::eachArc);
         Desk.held("13 send: no arcs: its exp is not worked out", Promise13TurnTest::noArcs);
@@ -219,6 +220,23 @@ public final class Promise13TurnTest {
             }
             desk.x.run(1);
             Desk.due("states in turn " + turn, desk.states(0), rows[turn][0] + " " + rows[turn][1] + " " + rows[turn][2]);
+        }
+    }
+
+    /** What is sent and given in each TURN is that TURN's alone, however many went before. */
+    private static void turnByTurn() {
+        Desk desk = Desk.begun("fold f : first ; fold s : sum ; global g : first ; global a : all ; start { send f 50 along ; } "
+            + "round { send f turn + 100 along ; send f 7 along ; send s turn along ; give g turn * 2 ; give g 9 ; "
+            + "give a turn % 3 != 0 ; }", 1, 0, 0);
+        desk.x.run(1);
+        for (int turn = 1; turn < 30; turn++) {
+            desk.x.run(1);
+            Desk.due("first, sent in TURN " + turn, desk.x.message(0, 0), turn + 100);
+            Desk.due("messages, sent in TURN " + turn, desk.x.messages(0, 0), 2);
+            Desk.due("sum, sent in TURN " + turn, desk.x.message(0, 1), turn);
+            Desk.due("first, given in TURN " + turn, desk.x.global(0), turn * 2);
+            Desk.due("all, given in TURN " + turn, desk.x.global(1), turn % 3 == 0 ? 0 : 1);
+            Desk.due("told(2)", desk.x.told(2), 3);
         }
     }
 

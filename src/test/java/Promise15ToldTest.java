@@ -167,6 +167,11 @@ public final class Promise15ToldTest {
         Desk.due("behind refused calls", desk.told(4, 5, 6, 7), failure);
         desk.x.begin(0);
         Desk.due("behind begin()", desk.told(4, 5, 6, 7), "0 0 0 0");
+        desk = Desk.begun("start { } round { if turn == 4 { let x = draw ( 2 - id ) ; } }", 3);
+        desk.x.run(9);
+        Desk.due("of node 2 in TURN 4", desk.told(4, 5, 6, 7), "2 2 41 4");
+        desk.x.begin(0);
+        Desk.due("of node 2, behind begin()", desk.told(4, 5, 6, 7), "0 0 0 0");
     }
 
     /** The first TURN fails at the @. */
