@@ -49,11 +49,33 @@ public final class OracleTest {
         }
     }
 
+    /** One program with its graphs and RUNS, or several short ones behind one another: the first one's answer. */
     private int play(int run) {
+        boolean several = run % 4 == 1;
+        story = "run " + run;
+        int answer = read(run, several ? 4 : run % 10 == 0 ? 130 : 12);
+        drawGraph();
+        playRun(several ? 2 : 8);
+        for (int i = 0; i < 6 && several && calls < MOST_CALLS / 2; i++) {
+            if (chance.nextInt(3) > 0) {
+                read(run, 3);
+            }
+            if (chance.nextInt(3) == 0) {
+                drawGraph();
+            }
+            playRun(2);
+        }
+        if (!several) {
+            playRun(8);
+        }
+        return answer;
+    }
+
+    private int read(int run, int size) {
         Author author = new Author(chance, run % 3 == 0 ? 0.03 : run % 3 == 1 ? 0.003 : 0);
-        List<String> tokens = author.write(1 + chance.nextInt(run % 10 == 0 ? 130 : 12));
+        List<String> tokens = author.write(1 + chance.nextInt(size));
         String text = author.spell(tokens);
-        story = "run " + run + ": " + text;
+        story += "\nprogram " + text;
         feed(text.length() > 4000 ? text.substring(0, 4000) : text);
         int answer = r.program();
         same("program()", x.program(), answer);
@@ -63,10 +85,6 @@ public final class OracleTest {
             same("count " + what, x.count(what), r.count(what));
         }
         comparePrinted(text);
-        drawGraph();
-        for (int i = 0; i < 2; i++) {
-            playRun();
-        }
         return answer;
     }
 
@@ -74,6 +92,10 @@ public final class OracleTest {
     private void comparePrinted(String text) {
         int size = r.print(-1);
         same("print(-1)", x.print(-1), size);
+        for (int i = 0; i < 12; i++) {
+            int place = chance.nextInt(Math.max(size, 0) + 3) - 1;
+            same("print(" + place + ")", x.print(place), r.print(place));
+        }
         Desk desk = null;
         int asked = 0;
         for (int i = -3; i < size + 3; i++) {
@@ -127,12 +149,12 @@ public final class OracleTest {
         same("weight(" + arc + ", " + column + ", " + v + ")", x.weight(arc, column, v), r.weight(arc, column, v));
     }
 
-    private void playRun() {
+    private void playRun(int moves) {
         int seed = chance.nextBoolean() ? chance.nextInt() : SEEDS[chance.nextInt(SEEDS.length)];
         story += "\nbegin(" + seed + ")";
         same("begin", x.begin(seed), r.begin(seed));
         look();
-        for (int i = 0; i < 8 && calls < MOST_CALLS - 100; i++) {
+        for (int i = 0; i < moves && calls < MOST_CALLS - 100; i++) {
             int which = chance.nextInt(10);
             if (which < 6) {
                 int turns = chance.nextInt(6) == 0 ? chance.nextInt(103) - 1 : 1 + chance.nextInt(3);
