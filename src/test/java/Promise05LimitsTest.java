@@ -60,7 +60,8 @@ public final class Promise05LimitsTest {
     }
 
     private static void allAtOnce() {
-        String all = "column k ; column l ; column m ; column w ; " + some("node # : int = 1 ; ", 8) + "fold o : sum ; fold p : sum ; fold q : sum ; fold r : sum ; "
+        String all = "column k ; column l ; column m ; column w ; " + some("node # : int = 1 ; ", 8)
+            + "fold o : sum ; fold p : sum ; fold q : sum ; fold r : sum ; "
             + "global s : sum ; global t : sum ; global u : sum ; global v : sum ; ";
         Desk.right(16, all + "start { " + EIGHT + "} round { " + EIGHT + "}");
         Desk.faulty(2, all + "column @x ; " + EMPTY);
