@@ -8,6 +8,7 @@ public final class Promise04ProgramTest {
         Desk.held("4 program: - 10 less its FAULT", Promise04ProgramTest::lessItsFault);
         Desk.held("4 program: with a FAULT there is no program then", Promise04ProgramTest::noProgramThen);
         Desk.held("4 program: a right one again, with nothing of those before", Promise04ProgramTest::rightAgain);
+        Desk.held("4 program: nothing is left of a text that ends or goes wrong anywhere", Promise04ProgramTest::nothingIsLeft);
         Desk.held("4 program: the RUN is gone", Promise04ProgramTest::runIsGone);
         Desk.held("4 program: nodes, arcs and their numbers stay", Promise04ProgramTest::graphStays);
         Desk.close();
@@ -104,6 +105,34 @@ public final class Promise04ProgramTest {
             Desk.due("v at first, program " + i, desk.x.state(0, 0), i);
             Desk.due("run(3), program " + i, desk.x.run(3), 3);
             Desk.due("v, program " + i, desk.x.state(0, 0), i + 78);
+        }
+    }
+
+    /** A text is broken off at each of its bytes, or has a byte there that is no TOKEN; the next is read as by a new object. */
+    private static void nothingIsLeft() {
+        String text = "column w;node n:int=4;fold f:some;global g:most;start{let a=!(n==-draw(9));loop 3{if a{let b=1;}else{"
+            + "send f(arc.w>if(has f,n,2))||a along;give g(n+1)*2;}}}round{n=n%3;halt;}";
+        Desk.right(8, text);
+        String wrong = "column w;node n:int=4;fold f:sum;start{send f 1 along;n=1+arc.w;}round{}";
+        String right = "fold w:least;node b:int=-7;start{let a=b-(id);send w(a)against;b=draw(a+90);}round{b=w;halt;}";
+        Desk fresh = Desk.with(right, 2, 0, 1);
+        fresh.x.begin(5);
+        fresh.x.run(1);
+        String due = fresh.printed() + fresh.everything();
+        for (int i = 0; i < text.length(); i++) {
+            for (String behind : new String[] {"", "?", "}", ")", "+"}) {
+                Desk desk = new Desk();
+                desk.load(text.substring(0, i) + behind);
+                Desk.due("program() of " + wrong, desk.load(wrong), -14);
+                Desk.due("fault(0)", desk.x.fault(0), wrong.indexOf("w;}round"));
+                desk.load(text.substring(0, i) + behind);
+                Desk.due("program() of " + right, desk.load(right), 5);
+                desk.x.nodes(2);
+                desk.x.arc(0, 1);
+                desk.x.begin(5);
+                desk.x.run(1);
+                Desk.due("all of it behind " + text.substring(0, i) + behind, desk.printed() + desk.everything(), due);
+            }
         }
     }
 

@@ -141,6 +141,7 @@ final class Reference {
         soft = new ArrayList<>();
         told = new ArrayList<>();
         statements = 0;
+        inSend = false;
         try {
             tokenize();
             readProgram();
